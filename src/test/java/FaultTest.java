@@ -11,6 +11,7 @@ final class FaultTest {
         groupsThatAreOver(expect);
         lastInstruction(expect);
         firstFaultCounts(expect);
+        eachDraftIsForItself(expect);
         expect.end();
     }
 
@@ -228,6 +229,25 @@ final class FaultTest {
         expect.same("a Q of BRANCH", Code.fresh().when(8, Code.BRANCH, 0).faultFound(), "3 at 0");
         expect.same("in the middle",
                 Code.fresh().when(1, Code.END).open(Code.RETURN).faultFound(), "3 at 1");
+    }
+
+    // What a refused draft had written in its last group must not count for the next draft.
+    private static void eachDraftIsForItself(Expect expect) {
+        PredicateMachine machine = new PredicateMachine();
+        String refused = new Code(machine).open(Code.SET, 1, 1).line(Code.SET, 1, 1).faultFound();
+        expect.same("a register twice", refused, "2 at 1");
+        Code code = new Code(machine).line(Code.ADD, 2, 1, 1).line(Code.END);
+        expect.same("the register anew", code.faultFound(), "0 at -1");
+        refused = new Code(machine).open(Code.LESS, 1, 1, 1).when(1, Code.END).faultFound();
+        expect.same("a predicate twice", refused, "2 at 1");
+        code = new Code(machine).when(1, Code.NOTHING).line(Code.END);
+        expect.same("the predicate anew", code.faultFound(), "0 at -1");
+        refused = new Code(machine).open(Code.COUNT, 1, 1).line(Code.END).faultFound();
+        expect.same("behind a COUNT", refused, "2 at 1");
+        expect.same("a group anew", new Code(machine).line(Code.END).faultFound(), "0 at -1");
+        machine.instruction(Code.NOTHING, 0, 0, 0, 0, true);
+        new Code(machine).line(Code.NOTHING).line(Code.END);
+        expect.same("its own groups alone", machine.take(), 3);
     }
 
     private static void firstFaultCounts(Expect expect) {

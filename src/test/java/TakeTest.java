@@ -21,6 +21,8 @@ final class TakeTest {
     private static void emptiesTheDraft(Expect expect) {
         PredicateMachine machine = Code.fresh().line(Code.END).taken();
         expect.badArgument("an empty draft", machine::take);
+        new Code(machine).line(Code.NOTHING).line(Code.END).taken();
+        expect.badArgument("empty behind a second program", machine::take);
         new Code(machine).line(Code.NOTHING);
         expect.badArgument("a draft with a fault", machine::take);
         expect.badArgument("empty behind that", machine::take);
@@ -32,10 +34,12 @@ final class TakeTest {
         Code code = Code.fresh().line(Code.FRAME, 24, 8, 16).line(Code.COUNT, 3, 2);
         code.line(Code.SET, 8, 77).line(Code.SAME, 3, 0, 0).line(Code.LESS, 8, 0, 0);
         code.line(Code.TURN, 6).line(Code.CALL, 7).line(Code.FRAME, 20, 0, 8);
-        code.line(Code.CALL, 9).line(Code.FRAME, 8, 0, 0).line(Code.END);
+        code.line(Code.CALL, 9).line(Code.FRAME, 8, 0, 0).line(Code.CALL, 12).line(Code.END);
+        code.line(Code.FRAME, 24, 0, 0).line(Code.RETURN);
         PredicateMachine machine = code.ran(50);
         expect.same("called before", machine.look(5), 2);
-        expect.same("spilled before", machine.look(8), 20);
+        expect.same("spilled before", machine.look(8), 44);
+        expect.same("filled before", machine.look(9), 8);
         expect.same("backing before", machine.backing(0), 77);
         new Code(machine).line(Code.FRAME, 24, 0, 0).line(Code.END).taken();
         for (int what = 0; what < 12; what++) {
