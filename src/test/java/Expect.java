@@ -4,11 +4,21 @@ final class Expect {
         void make();
     }
 
+    interface Answer {
+        Object get();
+    }
+
     private final String test;
+    private String sentence = "";
     private int wrong;
 
     Expect(String test) {
         this.test = test;
+    }
+
+    /** What follows tests this sentence of the document; what differs is told with it. */
+    void sentence(String words) {
+        sentence = " \"" + words + "\":";
     }
 
     void same(String what, long got, long due) {
@@ -47,6 +57,15 @@ final class Expect {
         }
     }
 
+    /** What a call answers or throws, as text. */
+    static String answer(Answer call) {
+        try {
+            return String.valueOf(call.get());
+        } catch (RuntimeException e) {
+            return "throws." + e.getClass().getSimpleName();
+        }
+    }
+
     void end() {
         System.out.println(test + ": " + (wrong == 0 ? "all as due" : wrong + " not as due"));
         if (wrong != 0) {
@@ -56,6 +75,6 @@ final class Expect {
 
     private void tell(String what, String got, String due) {
         wrong++;
-        System.out.println(test + ": " + what + " answered " + got + ", due is " + due);
+        System.out.println(test + ":" + sentence + " " + what + " answered " + got + ", due is " + due);
     }
 }

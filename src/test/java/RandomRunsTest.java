@@ -5,10 +5,6 @@ final class RandomRunsTest {
         Integer.MIN_VALUE, -1, 0, 7, 8, 11, 12, 15, 16, 24, 31, 32, 40, 119, 120, 500, 501, Integer.MAX_VALUE
     };
 
-    private interface Answer {
-        Object get();
-    }
-
     private final Expect expect;
     // The same numbers in each run of the test, so that what fails once fails again.
     private long state;
@@ -50,17 +46,9 @@ final class RandomRunsTest {
         return choices[below(choices.length)];
     }
 
-    private static String outcome(Answer answer) {
-        try {
-            return String.valueOf(answer.get());
-        } catch (RuntimeException e) {
-            return "throws." + e.getClass().getSimpleName();
-        }
-    }
-
-    private String both(String call, Answer got, Answer due) {
-        String answer = outcome(got);
-        expect.same(story + call, answer, outcome(due));
+    private String both(String call, Expect.Answer got, Expect.Answer due) {
+        String answer = Expect.answer(got);
+        expect.same(story + call, answer, Expect.answer(due));
         return answer;
     }
 
