@@ -1,6 +1,9 @@
 /** All promises at once: long runs of mixed calls, each answered by the class and by PlainModel. */
 final class RandomRunsTest {
-    private static final int OBJECTS = 1500;
+    private static final int OBJECTS = 5000;
+    // What an object answers behind its 512th call is free; as many as compareAll makes are kept for it.
+    private static final int LAST_CALL = 512;
+    private static final int KEPT_FOR_THE_END = 260;
     private static final int[] EDGES = {
         Integer.MIN_VALUE, -1, 0, 7, 8, 11, 12, 15, 16, 24, 31, 32, 40, 119, 120, 500, 501, Integer.MAX_VALUE
     };
@@ -11,6 +14,7 @@ final class RandomRunsTest {
     private PredicateMachine machine;
     private PlainModel model;
     private String story;
+    private int calls;
     private final int[] endings = new int[6];
     private int taken;
     private int spilling;
@@ -47,6 +51,10 @@ final class RandomRunsTest {
     }
 
     private String both(String call, Expect.Answer got, Expect.Answer due) {
+        calls++;
+        if (calls > LAST_CALL) {
+            throw new IllegalStateException("the test makes more calls than are promised to be answered");
+        }
         String answer = Expect.answer(got);
         expect.same(story + call, answer, Expect.answer(due));
         return answer;
@@ -56,15 +64,10 @@ final class RandomRunsTest {
         machine = new PredicateMachine();
         model = new PlainModel();
         story = "object " + i + ": ";
+        calls = 0;
         int programs = 1 + below(4);
-        for (int p = 0; p < programs; p++) {
-            if (oneIn(3)) {
-                writeCallingDraft();
-            } else if (oneIn(3)) {
-                writeMemoryDraft();
-            } else {
-                writeDraft(oneIn(3));
-            }
+        for (int p = 0; p < programs && roomFor(100); p++) {
+            writeSomeDraft();
             if (both("take", machine::take, model::take).startsWith("throws")) {
                 both("fault 0", () -> machine.fault(0), () -> model.fault(0));
                 both("fault 1", () -> machine.fault(1), () -> model.fault(1));
@@ -72,17 +75,36 @@ final class RandomRunsTest {
                 taken++;
             }
             int runs = 1 + below(6);
-            for (int r = 0; r < runs; r++) {
+            for (int r = 0; r < runs && roomFor(60); r++) {
                 hostWrites();
-                int budget = oneIn(20) ? among(EDGES) : 1 + below(oneIn(3) ? 200 : 12);
-                String end = both("run " + budget, () -> machine.run(budget), () -> model.run(budget));
-                if (end.length() == 1) {
-                    endings[Integer.parseInt(end)]++;
-                }
-                compareAll();
+                runSome();
+                compareSome();
             }
-            spilling += machine.look(8) > 0 ? 1 : 0;
-            filling += machine.look(9) > 0 ? 1 : 0;
+        }
+        spilling += model.look(8) > 0 ? 1 : 0;
+        filling += model.look(9) > 0 ? 1 : 0;
+        compareAll();
+    }
+
+    private boolean roomFor(int more) {
+        return calls + more + KEPT_FOR_THE_END <= LAST_CALL;
+    }
+
+    private void writeSomeDraft() {
+        if (oneIn(3)) {
+            writeCallingDraft();
+        } else if (oneIn(3)) {
+            writeMemoryDraft();
+        } else {
+            writeDraft(oneIn(3));
+        }
+    }
+
+    private void runSome() {
+        int budget = oneIn(20) ? among(EDGES) : 1 + below(oneIn(3) ? 200 : 12);
+        String end = both("run " + budget, () -> machine.run(budget), () -> model.run(budget));
+        if (end.length() == 1) {
+            endings[Integer.parseInt(end)]++;
         }
     }
 
@@ -211,6 +233,19 @@ final class RandomRunsTest {
                 return 0;
             });
         }
+    }
+
+    private void compareSome() {
+        for (int i = 0; i < 12; i++) {
+            int what = i;
+            int register = below(18);
+            both("look " + what, () -> machine.look(what), () -> model.look(what));
+            both("register " + register, () -> machine.register(register), () -> model.register(register).value());
+        }
+        int predicate = below(16);
+        int cell = below(32);
+        both("predicate " + predicate, () -> machine.predicate(predicate), () -> model.predicate(predicate));
+        both("memory " + cell, () -> machine.memory(cell), () -> model.memory(cell));
     }
 
     private void compareAll() {
